@@ -2,7 +2,7 @@
 final class ByTest {
     public static void main(String[] args) {
         Checks checks = new Checks("ByTest");
-        WordForms forms = new WordForms();
+        Fresh forms = new Fresh();
         int[][] rows = {
             {0x14000000, 0}, {0x14000001, 4}, {0x14000006, 24}, {0x17FFFFFF, -4}, {0x17FFFFFB, -20},
             {0x15FFFFFF, 134217724}, {0x16000000, -134217728}, {0x15555555, 89478484}, {0x16AAAAAA, -89478488},
@@ -14,14 +14,14 @@ final class ByTest {
             {0x5400002E, 1}, {0x5400003F, 1}, {0xD65F03C0, 1}, {0xD61F0120, 1}, {0xD63F0120, 1},
         };
         for (int[] row : rows) {
-            checks.due("by(" + Checks.hex(row[0]) + ")", forms.by(row[0]), row[1]);
+            checks.due("by(" + Checks.hex(row[0]) + ")", forms.next().by(row[0]), row[1]);
         }
         for (int w : Words.all()) {
             int kind = Words.kindDue(w);
             if (kind < 12 || kind > 16) {
-                checks.due("by(" + Checks.hex(w) + ")", forms.by(w), 1);
+                checks.due("by(" + Checks.hex(w) + ")", forms.next().by(w), 1);
             } else {
-                checks.due("by(" + Checks.hex(w) + ") is of 4", forms.by(w) % 4, 0);
+                checks.due("by(" + Checks.hex(w) + ") is of 4", forms.next().by(w) % 4, 0);
             }
         }
         checks.end();

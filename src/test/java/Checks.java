@@ -30,6 +30,14 @@ final class Checks {
         }
     }
 
+    int made() {
+        return made;
+    }
+
+    int wrong() {
+        return wrong;
+    }
+
     static String hex(int w) {
         return String.format("0x%08X", w);
     }

@@ -2,15 +2,15 @@
 final class GoesOnTest {
     public static void main(String[] args) {
         Checks checks = new Checks("GoesOnTest");
-        WordForms forms = new WordForms();
+        Fresh forms = new Fresh();
         for (int kind = 1; kind <= Words.KINDS; kind++) {
             boolean due = kind != 12 && kind != 17 && kind != 19;
             for (int w : Words.samples(kind)) {
-                checks.due("goesOn(" + Checks.hex(w) + ")", forms.goesOn(w), due);
+                checks.due("goesOn(" + Checks.hex(w) + ")", forms.next().goesOn(w), due);
             }
         }
         for (int w : Words.NO_INSTRUCTIONS) {
-            checks.due("goesOn(" + Checks.hex(w) + ")", forms.goesOn(w), false);
+            checks.due("goesOn(" + Checks.hex(w) + ")", forms.next().goesOn(w), false);
         }
         checks.end();
     }

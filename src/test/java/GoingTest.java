@@ -2,7 +2,7 @@
 final class GoingTest {
     public static void main(String[] args) {
         Checks checks = new Checks("GoingTest");
-        WordForms forms = new WordForms();
+        Fresh forms = new Fresh();
         checkRows(checks, forms);
         for (int w : Words.all()) {
             for (long by : Reaches.DISTANCES) {
@@ -12,7 +12,7 @@ final class GoingTest {
         checks.end();
     }
 
-    private static void checkRows(Checks checks, WordForms forms) {
+    private static void checkRows(Checks checks, Fresh forms) {
         int[][] rows = {
             {0x14000006, 16, 0x14000004}, {0x14000006, -4, 0x17FFFFFF}, {0x17FFFFFF, 0, 0x14000000},
             {0x14000000, 134217724, 0x15FFFFFF}, {0x14000000, -134217728, 0x16000000},
@@ -26,22 +26,22 @@ final class GoingTest {
             {0x5400002E, 4, 0x5400002E}, {0xD65F03C0, 4, 0xD65F03C0}, {0, 4, 0},
         };
         for (int[] row : rows) {
-            checks.dueWord("going(" + Checks.hex(row[0]) + ", " + row[1] + ")", forms.going(row[0], row[1]), row[2]);
+            checks.dueWord("going(" + Checks.hex(row[0]) + ", " + row[1] + ")", forms.next().going(row[0], row[1]), row[2]);
         }
     }
 
-    private static void check(Checks checks, WordForms forms, int w, int by) {
+    private static void check(Checks checks, Fresh forms, int w, int by) {
         String call = "going(" + Checks.hex(w) + ", " + by + ")";
         int kind = Words.kindDue(w);
-        int got = forms.going(w, by);
+        int got = forms.next().going(w, by);
         if (!Reaches.reachDue(kind, by)) {
             checks.dueWord(call, got, w);
             return;
         }
-        checks.due(call + " keeps its kind", forms.kind(got), kind);
-        checks.due(call + " goes so far", forms.by(got), by);
+        checks.due(call + " keeps its kind", forms.next().kind(got), kind);
+        checks.due(call + " goes so far", forms.next().by(got), by);
         checks.dueWord(call + " keeps all else", got & elseMask(kind), w & elseMask(kind));
-        checks.dueWord(call + " and back", forms.going(got, forms.by(w)), w);
+        checks.dueWord(call + " and back", forms.next().going(got, forms.next().by(w)), w);
     }
 
     private static int elseMask(int kind) {

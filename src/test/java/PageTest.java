@@ -4,7 +4,7 @@ final class PageTest {
 
     public static void main(String[] args) {
         Checks checks = new Checks("PageTest");
-        WordForms forms = new WordForms();
+        Fresh forms = new Fresh();
         check(checks, forms, 0x90000001, 65552L, 65536L);
         check(checks, forms, 0x90000001, 0L, 0L);
         check(checks, forms, 0x90000001, 4092L, 0L);
@@ -36,7 +36,7 @@ final class PageTest {
         checks.end();
     }
 
-    private static void check(Checks checks, WordForms forms, int w, long address, long want) {
-        checks.due("page(" + Checks.hex(w) + ", " + address + ")", forms.page(w, address), want);
+    private static void check(Checks checks, Fresh forms, int w, long address, long want) {
+        checks.due("page(" + Checks.hex(w) + ", " + address + ")", forms.next().page(w, address), want);
     }
 }

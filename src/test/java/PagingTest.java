@@ -10,7 +10,7 @@ final class PagingTest {
 
     public static void main(String[] args) {
         Checks checks = new Checks("PagingTest");
-        WordForms forms = new WordForms();
+        Fresh forms = new Fresh();
         checkRows(checks, forms);
         for (int w : ADRPS) {
             for (long address : ADDRESSES) {
@@ -27,7 +27,7 @@ final class PagingTest {
         checks.end();
     }
 
-    private static void checkRows(Checks checks, WordForms forms) {
+    private static void checkRows(Checks checks, Fresh forms) {
         check(checks, forms, 0x90000001, 65540L, 524365L, 0x90000381);
         check(checks, forms, 0x90000001, 65540L, 65536L, 0x90000001);
         check(checks, forms, 0xF0FFFFFF, 65540L, 69631L, 0x9000001F);
@@ -50,23 +50,23 @@ final class PagingTest {
         check(checks, forms, 0x10000001, 65540L, 524365L, 0x10000001);
     }
 
-    private static void checkPages(Checks checks, WordForms forms, int w, long address, long pages) {
+    private static void checkPages(Checks checks, Fresh forms, int w, long address, long pages) {
         long start = Math.floorDiv(address, PAGE) * PAGE + pages * PAGE;
         for (long above = 0; above < PAGE; above += 1365) {
             long target = start + above;
-            int got = forms.paging(w, address, target);
+            int got = forms.next().paging(w, address, target);
             String call = "paging(" + Checks.hex(w) + ", " + address + ", " + target + ")";
             if (pages >= 1048576 || pages < -1048576) {
                 checks.dueWord(call, got, w);
             } else {
-                checks.due(call + " makes", forms.page(got, address), start);
+                checks.due(call + " makes", forms.next().page(got, address), start);
                 checks.due(call + " is ADRP of the same register", got & 0x9F00001F, w & 0x9F00001F);
             }
         }
     }
 
-    private static void check(Checks checks, WordForms forms, int w, long address, long target, int want) {
+    private static void check(Checks checks, Fresh forms, int w, long address, long target, int want) {
         checks.dueWord("paging(" + Checks.hex(w) + ", " + address + ", " + target + ")",
-            forms.paging(w, address, target), want);
+            forms.next().paging(w, address, target), want);
     }
 }

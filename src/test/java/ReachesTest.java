@@ -2,7 +2,7 @@
 final class ReachesTest {
     public static void main(String[] args) {
         Checks checks = new Checks("ReachesTest");
-        WordForms forms = new WordForms();
+        Fresh forms = new Fresh();
         for (int w : Words.all()) {
             for (long by : Reaches.DISTANCES) {
                 check(checks, forms, w, by);
@@ -14,8 +14,8 @@ final class ReachesTest {
         checks.end();
     }
 
-    private static void check(Checks checks, WordForms forms, int w, long by) {
-        checks.due("reaches(" + Checks.hex(w) + ", " + by + ")", forms.reaches(w, by),
+    private static void check(Checks checks, Fresh forms, int w, long by) {
+        checks.due("reaches(" + Checks.hex(w) + ", " + by + ")", forms.next().reaches(w, by),
             Reaches.reachDue(Words.kindDue(w), by));
     }
 }

@@ -9,7 +9,7 @@ final class RegisterTest {
 
     public static void main(String[] args) {
         Checks checks = new Checks("RegisterTest");
-        WordForms forms = new WordForms();
+        Fresh forms = new Fresh();
         checkRows(checks, forms);
         for (int w : Words.all()) {
             checkWord(checks, forms, w, Words.kindDue(w));
@@ -17,7 +17,7 @@ final class RegisterTest {
         checks.end();
     }
 
-    private static void checkRows(Checks checks, WordForms forms) {
+    private static void checkRows(Checks checks, Fresh forms) {
         int[][] rows = {
             {0x9B0F3443, 3, 2, 15, 13}, {0x9B1FFFFF, 31, 31, 31, 31}, {0x9B000000, 0, 0, 0, 0},
             {0xA9BF7BFD, 29, 31, -1, 30}, {0xA8810861, 1, 3, -1, 2}, {0x8B1502B3, 19, 21, 21, -1},
@@ -36,7 +36,7 @@ final class RegisterTest {
         }
     }
 
-    private static void checkWord(Checks checks, WordForms forms, int w, int kind) {
+    private static void checkWord(Checks checks, Fresh forms, int w, int kind) {
         String has = kind == 0 ? "" : HAS[kind - 1];
         check(checks, forms, w, 0, has.contains("d") ? w & 31 : -1);
         check(checks, forms, w, 1, has.contains("n") ? w >> 5 & 31 : -1);
@@ -47,7 +47,7 @@ final class RegisterTest {
         }
     }
 
-    private static void check(Checks checks, WordForms forms, int w, int what, int want) {
-        checks.due("register(" + Checks.hex(w) + ", " + what + ")", forms.register(w, what), want);
+    private static void check(Checks checks, Fresh forms, int w, int what, int want) {
+        checks.due("register(" + Checks.hex(w) + ", " + what + ")", forms.next().register(w, what), want);
     }
 }

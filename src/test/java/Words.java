@@ -53,6 +53,16 @@ final class Words {
         {0xD503201F},
     };
 
+    /** Of kind i + 1, a word with registers 0 alone, and one with registers 31 alone and its other bits 1 where that is allowed. */
+    private static final int[][] LEAST_AND_GREATEST = {
+        {0x11000000, 0xF17FFFFF}, {0x0B000000, 0xEB9FFFFF}, {0x0A000000, 0xEAFFFFFF}, {0x12800000, 0xF2FFFFFF},
+        {0x90000000, 0xF0FFFFFF}, {0x1B000000, 0x9B1FFFFF}, {0x1AC00800, 0x9ADF0BFF}, {0x1A800000, 0x9A9FD7FF},
+        {0x39000000, 0xF97FFFFF}, {0x38206800, 0xF87F7BFF}, {0xA9000000, 0xA93FFFFF}, {0x14000000, 0x17FFFFFF},
+        {0x94000000, 0x97FFFFFF}, {0x54000000, 0x54FFFFED}, {0x34000000, 0xB5FFFFFF}, {0x36000000, 0xB7FFFFFF},
+        {0xD61F0000, 0xD61F03E0}, {0xD63F0000, 0xD63F03E0}, {0xD65F0000, 0xD65F03E0}, {0xD4000001, 0xD41FFFE1},
+        {0xD503201F, 0xD503201F},
+    };
+
     /** Words that look like an instruction but hold what the document leaves out, and others. */
     static final int[] NO_INSTRUCTIONS = {
         0x00000000, 0xFFFFFFFF, 0x7FFFFFFF, 0x80000000, 0x00000001,
@@ -78,6 +88,14 @@ final class Words {
 
     static int[] samples(int kind) {
         return SAMPLES[kind - 1];
+    }
+
+    static int least(int kind) {
+        return LEAST_AND_GREATEST[kind - 1][0];
+    }
+
+    static int greatest(int kind) {
+        return LEAST_AND_GREATEST[kind - 1][1];
     }
 
     /** The kind of a word, read off the texts and the rules of the document's terms. */
