@@ -1,4 +1,4 @@
-/** Words of a machine with fixed words: what each is, where it goes, and the word that goes elsewhere instead. */
+/** Words of a machine with fixed words: what each is, where it goes, and the word that goes somewhere else instead. */
 public final class WordForms {
     private static final int NONE = 0;
     private static final int ADD_NUMBER = 1;
